@@ -24,9 +24,9 @@ public final class RootedCuts {
     private final Text text;
     private final TreeReader treeReader;
     private final MethodReader methodReader;
-    private final Possession now;
+    private final State now;
     private final Past past;
-    private final Possession[] images;
+    private final State[] images;
     private final boolean[] kept;
     private final Sights sights;
     /** A CHARACTER is made here first, as its REGISTER may be one of those that it is made of. */
@@ -37,11 +37,11 @@ public final class RootedCuts {
         cuts = new Cuts(trees);
         weights = new Weights();
         text = new Text();
-        treeReader = new TreeReader(trees);
-        methodReader = new MethodReader();
-        now = new Possession();
+        treeReader = new TreeReader(trees, text);
+        methodReader = new MethodReader(text);
+        now = new State();
         past = new Past();
-        images = new Possession[] {new Possession(), new Possession()};
+        images = new State[] {new State(), new State()};
         kept = new boolean[IMAGES];
         sights = new Sights();
         made = new long[TREES];
@@ -61,7 +61,7 @@ public final class RootedCuts {
     }
 
     public int tree() {
-        int answer = treeReader.read(text);
+        int answer = treeReader.read();
         if (answer >= 0) {
             text.empty();
         }
@@ -69,7 +69,7 @@ public final class RootedCuts {
     }
 
     public int method() {
-        int answer = methodReader.read(text);
+        int answer = methodReader.read();
         if (answer >= 0) {
             past.remember(now);
             now.method.become(methodReader.told);
@@ -349,7 +349,7 @@ public final class RootedCuts {
 
         Trees() {
             measure();
-            weighDown();
+            findDensities();
             graftAtTheHead();
             graftFurtherOn();
         }
@@ -369,7 +369,7 @@ public final class RootedCuts {
             }
         }
 
-        private void weighDown() {
+        private void findDensities() {
             int[] ofChildren = new int[TREES];
             for (int t = 0; t < TREES; t++) {
                 ofChildren[t] = t == 0 ? 1 : density[FIRST[t]] * ofChildren[REST[t]];
@@ -639,11 +639,11 @@ public final class RootedCuts {
     }
 
     /** What is UNDONE and what IMAGES keep: METHOD and REGISTERS. */
-    private static final class Possession {
+    private static final class State {
         final StepMethod method = new StepMethod();
         final long[][] registers = new long[REGISTERS][TREES];
 
-        void become(Possession other) {
+        void become(State other) {
             method.become(other.method);
             for (int r = 0; r < REGISTERS; r++) {
                 System.arraycopy(other.registers[r], 0, registers[r], 0, TREES);
@@ -655,23 +655,23 @@ public final class RootedCuts {
     private static final class Past {
         private static final int MOST_KNOWN = 6;
 
-        private final Possession[] known = new Possession[MOST_KNOWN];
+        private final State[] known = new State[MOST_KNOWN];
         private int next = 0;
         int size = 0;
 
         Past() {
             for (int i = 0; i < MOST_KNOWN; i++) {
-                known[i] = new Possession();
+                known[i] = new State();
             }
         }
 
-        void remember(Possession now) {
+        void remember(State now) {
             known[next].become(now);
             next = next + 1 < MOST_KNOWN ? next + 1 : 0;
             size = Math.min(size + 1, MOST_KNOWN);
         }
 
-        boolean recall(Possession now) {
+        boolean recall(State now) {
             if (size == 0) {
                 return false;
             }
@@ -752,15 +752,17 @@ public final class RootedCuts {
     /** Reads a TREE. Each ( opens a TREE 0, each ) grafts what it closes onto what is still open. */
     private static final class TreeReader {
         private final Trees trees;
+        private final Text text;
         private final int[] open = new int[MOST_NODES];
         private int depth = 0;
         private int nodes = 0;
 
-        TreeReader(Trees trees) {
+        TreeReader(Trees trees, Text text) {
             this.trees = trees;
+            this.text = text;
         }
 
-        int read(Text text) {
+        int read() {
             depth = 0;
             nodes = 0;
             for (int place = 0; place < text.length; place++) {
@@ -801,28 +803,29 @@ public final class RootedCuts {
         private static final int WRONG = -2;
         private static final int MOST_OF_A_NUMBER = 999;
 
-        private Text text = null;
+        private final Text text;
         private int next = 0;
         int kind = END;
         int place = 0;
         int size = 0;
 
-        void begin(Text anew) {
-            text = anew;
+        Tokens(Text text) {
+            this.text = text;
+        }
+
+        void restart() {
             next = 0;
+            advance();
         }
 
         void advance() {
-            if (text == null) {
-                return;
-            }
             while (next < text.length && text.letterAt(next) == Text.BLANK) {
                 next++;
             }
             place = next;
             if (next >= text.length) {
                 kind = END;
-            } else if (isFigure(next)) {
+            } else if (isFigure(text.letterAt(next))) {
                 takeFigures();
             } else {
                 kind = kindOf(text.letterAt(next));
@@ -830,20 +833,19 @@ public final class RootedCuts {
             }
         }
 
-        private boolean isFigure(int at) {
-            int letter = text.letterAt(at);
-            return letter >= '0' && letter <= '9';
-        }
-
         private void takeFigures() {
             size = 0;
-            while (next < text.length && isFigure(next)) {
+            while (next < text.length && isFigure(text.letterAt(next))) {
                 // Held down, as 160 figures would wrap.
                 size = Math.min(10 * size + text.letterAt(next) - '0', MOST_OF_A_NUMBER + 1);
                 next++;
             }
             boolean zeroAhead = text.letterAt(place) == '0' && next - place > 1;
             kind = zeroAhead || size > MOST_OF_A_NUMBER ? WRONG : NUMBER;
+        }
+
+        private static boolean isFigure(int letter) {
+            return letter >= '0' && letter <= '9';
         }
 
         private static int kindOf(int letter) {
@@ -860,17 +862,22 @@ public final class RootedCuts {
         }
     }
 
-    /** Reads a METHOD. Whatever does not fit, the token at hand is the one that can't stand there. */
+    /** Reads a METHOD. Where it stops short, the token at hand is the one that can't stand there. */
     private static final class MethodReader {
         final StepMethod told = new StepMethod();
-        private final Tokens tokens = new Tokens();
+        private final Tokens tokens;
         private int items = 0;
+        private int row = 0;
+        private int column = 0;
 
-        int read(Text text) {
+        MethodReader(Text text) {
+            tokens = new Tokens(text);
+        }
+
+        int read() {
             told.reset();
-            tokens.begin(text);
             items = 0;
-            tokens.advance();
+            tokens.restart();
             while (items < Text.MOST_LETTERS && tokens.kind != Tokens.END) {
                 if (!takesItem()) {
                     return FAULTS - tokens.place;
@@ -886,35 +893,37 @@ public final class RootedCuts {
                 case 's':
                     return items == 0 && takesStages() && takesEnd();
                 case 'a':
-                    return takesCoupling() && takesEnd();
+                    return takesRow() && takesColumn() && takesNumber() && takesEnd();
                 case 'b':
-                    return takesStage() && takesNumberFor(tokens.size, WEIGHTS_OF_STAGES) && takesEnd();
+                    column = WEIGHTS_OF_STAGES;
+                    return takesRow() && takesNumber() && takesEnd();
                 default:
                     return false;
             }
         }
 
         private boolean takesStages() {
-            if (!takesSize(1, MOST_STAGES)) {
+            tokens.advance();
+            if (!isSize(1, MOST_STAGES)) {
                 return false;
             }
             told.stages = tokens.size;
             return true;
         }
 
-        private boolean takesCoupling() {
-            if (!takesStage()) {
-                return false;
-            }
-            int i = tokens.size;
-            return takesStage() && takesNumberFor(i, tokens.size);
+        private boolean takesRow() {
+            tokens.advance();
+            row = tokens.size;
+            return isSize(0, told.stages - 1);
         }
 
-        private boolean takesStage() {
-            return takesSize(0, told.stages - 1);
+        private boolean takesColumn() {
+            tokens.advance();
+            column = tokens.size;
+            return isSize(0, told.stages - 1);
         }
 
-        private boolean takesNumberFor(int i, int j) {
+        private boolean takesNumber() {
             tokens.advance();
             boolean below = tokens.kind == '-';
             if (below) {
@@ -923,18 +932,13 @@ public final class RootedCuts {
             if (!isSize(0, MOST_NUMBER)) {
                 return false;
             }
-            told.set(i, j, below ? -tokens.size : tokens.size);
+            told.set(row, column, below ? -tokens.size : tokens.size);
             return true;
         }
 
         private boolean takesEnd() {
             tokens.advance();
             return tokens.kind == ';';
-        }
-
-        private boolean takesSize(int least, int most) {
-            tokens.advance();
-            return isSize(least, most);
         }
 
         private boolean isSize(int least, int most) {

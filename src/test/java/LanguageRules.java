@@ -90,15 +90,12 @@ public final class LanguageRules {
         for (Class<?> c : inside) {
             not(c + " is not static", !Modifier.isStatic(c.getModifiers()));
             not(c + " is public or protected", (c.getModifiers() & (Modifier.PUBLIC | Modifier.PROTECTED)) != 0);
-            for (Method m : c.getDeclaredMethods()) {
-                not(m + " bears a public name", names.contains(m.getName()));
-            }
-            membersOf(c);
+            membersOf(c, names);
         }
-        membersOf(RootedCuts.class);
+        membersOf(RootedCuts.class, names);
     }
 
-    private static void membersOf(Class<?> c) {
+    private static void membersOf(Class<?> c, TreeSet<String> publicNames) {
         int fields = 0;
         for (Field f : c.getDeclaredFields()) {
             boolean isStatic = Modifier.isStatic(f.getModifiers());
@@ -110,6 +107,7 @@ public final class LanguageRules {
         for (Method m : c.getDeclaredMethods()) {
             not(m + " takes more than 7", m.getParameterCount() > 7);
             not(m + " is synthetic", m.isSynthetic());
+            not(m + " bears a public name", !Modifier.isPublic(m.getModifiers()) && publicNames.contains(m.getName()));
         }
     }
 

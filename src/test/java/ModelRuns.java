@@ -5,7 +5,9 @@ import java.util.Random;
  * with fixed seeds, with arguments at, within and beyond the edges, and texts with and without faults.
  */
 public final class ModelRuns {
-    private static final int RUNS = 400, CALLS = 512;
+    private static final int CALLS = 512;
+    private static final int RUNS = Integer.getInteger("runs", 300);
+    private static final int TEXTS = Integer.getInteger("texts", 20000);
     private static final int[] FAR = {Integer.MIN_VALUE, -1000, -2, -1, 17, 100, Integer.MAX_VALUE};
     private static final long[] WIDE = {Long.MIN_VALUE, Long.MAX_VALUE, 1L << 40, -9000000000000000000L, 0};
     private static final String[] METHODS = {
@@ -23,6 +25,9 @@ public final class ModelRuns {
 
     public static void main(String[] args) {
         askAllOfTrees();
+        for (int seed = 0; seed < TEXTS; seed++) {
+            new ModelRuns(-1 - seed).readOneText();
+        }
         for (int seed = 0; seed < RUNS; seed++) {
             new ModelRuns(seed).run();
         }
@@ -63,6 +68,18 @@ public final class ModelRuns {
             step(random.nextInt(30));
         }
         compareAll();
+    }
+
+    private void readOneText() {
+        boolean method = random.nextInt(4) > 0;
+        String text = method ? methodText() : treeText();
+        for (int times = random.nextInt(3); times > 0; times--) {
+            text = spoilt(new StringBuilder(text), method ? METHOD_LETTERS : "()() x");
+        }
+        if (text.length() < 150) {
+            sayAndRead(text, method);
+            compareMethod();
+        }
     }
 
     private void same(String call, long got, long want) {
@@ -229,17 +246,21 @@ public final class ModelRuns {
     }
 
     private void compareAll() {
+        compareMethod();
+        for (int r = 0; r < 6; r++) {
+            for (int t = 0; t < 17; t++) {
+                same("value(" + r + ", " + t + ")", x.value(r, t), m.value(r, t));
+            }
+        }
+    }
+
+    private void compareMethod() {
         for (int what = 0; what < 4; what++) {
             same("count(" + what + ")", x.count(what), m.count(what));
         }
         for (int i = 0; i < 4; i++) {
             for (int j = -1; j < 4; j++) {
                 same("number(" + i + ", " + j + ")", x.number(i, j), m.number(i, j));
-            }
-        }
-        for (int r = 0; r < 6; r++) {
-            for (int t = 0; t < 17; t++) {
-                same("value(" + r + ", " + t + ")", x.value(r, t), m.value(r, t));
             }
         }
     }
