@@ -13,6 +13,7 @@ public final class RegisterPromises {
     public static void main(String[] args) {
         loads();
         loadsOfTwoStages();
+        loadsOfFourStages();
         flows();
         composes();
         composesOntoItself();
@@ -85,6 +86,22 @@ public final class RegisterPromises {
             long v1 = 3 * w0[t] - 5 * w1[t];
             due.is("value(2, " + (t + 9) + ") of two STAGES", x.value(2, t + 9), 7 * v0 + 11 * v1);
         }
+    }
+
+    /** The classical Runge-Kutta method, then each STAGE's b by itself. */
+    private static void loadsOfFourStages() {
+        RootedCuts x = new RootedCuts();
+        Due.tell(x, "s 4; a 1 0 30; a 2 1 30; a 3 2 60; b 0 10; b 1 20; b 2 20; b 3 10;");
+        due.is("loads(0)", x.loads(0), 4);
+        due.is("FAILS", x.order(0, 1), 8);
+        // c is 0, 30, 30, 60: to the fourth, weighed with b.
+        due.is("value(0, 8)", x.value(0, 8), 2 * 20 * 810000 + 10 * 12960000);
+        due.is("value(0, 16)", x.value(0, 16), 0);
+        Due.tell(x, "s 4; a 3 3 2; a 3 0 1; b 3 5;");
+        due.is("loads(1)", x.loads(1), 0);
+        due.is("value(1, 1)", x.value(1, 1), 15);
+        due.is("value(1, 3)", x.value(1, 3), 5 * 2 * 3);
+        due.is("value(1, 16)", x.value(1, 16), 5 * 8 * 3);
     }
 
     private static void flows() {
