@@ -2,12 +2,18 @@
 final class Due {
     private int asked = 0;
     private int wrong = 0;
+    private String sentence = "";
+
+    /** The document's words by which the answers from here on are due: printed with those that are not. */
+    void by(String words) {
+        sentence = "\"" + words + "\": ";
+    }
 
     void is(String call, long got, long want) {
         asked++;
         if (got != want) {
             wrong++;
-            System.out.println(call + " answered " + got + ", due is " + want);
+            System.out.println(sentence + call + " answered " + got + ", due is " + want);
         }
     }
 

@@ -35,18 +35,18 @@ public final class ModelRuns {
     }
 
     private static void askAllOfTrees() {
-        RootedCuts x = new RootedCuts();
+        Fresh fresh = new Fresh();
         Model m = new Model();
         due.is("how many TREES the Model finds", Model.TREES.size(), 17);
         for (int t = -2; t < 19; t++) {
             for (int k = -3; k < 19; k++) {
                 String of = "(" + t + ", " + k + ")";
-                due.is("about" + of, x.about(t, k), m.about(t, k));
-                due.is("child" + of, x.child(t, k), m.child(t, k));
-                due.is("grafted" + of, x.grafted(t, k), m.grafted(t, k));
-                due.is("leaves" + of, x.leaves(t, k), m.leaves(t, k));
+                due.is("about" + of, fresh.x().about(t, k), m.about(t, k));
+                due.is("child" + of, fresh.x().child(t, k), m.child(t, k));
+                due.is("grafted" + of, fresh.x().grafted(t, k), m.grafted(t, k));
+                due.is("leaves" + of, fresh.x().leaves(t, k), m.leaves(t, k));
                 for (int i = -3; i < 6; i++) {
-                    due.is("cut(" + t + ", " + k + ", " + i + ")", x.cut(t, k, i), m.cut(t, k, i));
+                    due.is("cut(" + t + ", " + k + ", " + i + ")", fresh.x().cut(t, k, i), m.cut(t, k, i));
                 }
             }
         }
